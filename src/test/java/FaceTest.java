@@ -19,6 +19,7 @@ public final class FaceTest {
     };
 
     public static void main(String[] args) throws IllegalAccessException {
+        Check.sentence("The public face");
         Check.due("modifiers of the class", RentSizes.class.getModifiers(), Modifier.PUBLIC | Modifier.FINAL);
         Check.same("the face", face().toString(), new TreeSet<>(Set.of(FACE)).toString());
         Check.done();
